@@ -77,7 +77,7 @@ public final class WholeMill {
         if (!isRegister(d) || !isRegister(a) || !isRegister(b)) {
             return false;
         }
-        // A product has as many bits as both factors together, or one less: only the last case must be worked out.
+        // A product has as many bits as its factors together, or one less: what is surely too great is not worked out.
         if (registers[a].size() + registers[b].size() > MOST_BITS + 1) {
             return false;
         }
@@ -375,6 +375,7 @@ public final class WholeMill {
          */
         static long guess(int high, int middle, int low, int top, int second) {
             long by = top & LOW_WORD;
+            // Its highest bit is 1, but no divisor goes without a look.
             if (by == 0) {
                 return LOW_WORD;
             }
@@ -492,7 +493,7 @@ public final class WholeMill {
             doubled[at] = (int) word;
             long top = (left[end] & LOW_WORD) - Rows.takeMultiple(left, 2 * at, doubled, at, many, word);
             doubled[at] = 0;
-            // The guess is at most by 1 too great for w * 2 * s, and that, as the square of w is not in it, by 1 more.
+            // Too great by 1 at most for w * 2 * s, the guess is by 1 more at most for the square of w beside it.
             for (int i = 0; i < 3 && top < 0; i++) {
                 word--;
                 top += Rows.addStretch(left, 2 * at, doubled, at, many, 2 * word + 1);
@@ -517,16 +518,15 @@ public final class WholeMill {
         }
 
         /**
-         * The root found is s * 2^half + t, t its lowest bits. Then (a - s * s) * 2^(2 * half) is what is left
-         * and t * (s * 2^(half + 1) + t); the sum in brackets is the doubled root less t, which borrows nothing.
+         * The root found is s * 2^half + t, t its lowest bits. Then what is left and t times the doubled root
+         * are together (a - s * s) * 2^(2 * half) + t * t, of which t * t is lost in the shift.
          */
         private static void shiftBack(Whole root, Whole left, Whole doubled, int count, int half) {
             int t = Rows.halved(doubled.words[1], doubled.words[0]) & ((1 << half) - 1);
-            doubled.words[0] -= t;
-            doubled.settle(count + 1);
             Rows.addMultiple(left.words, 0, doubled.words, count + 1, t);
             left.settle(count + 1);
             left.becomeShiftedRight(left, 2 * half);
+            doubled.settle(count + 1);
             root.becomeShiftedRight(doubled, half + 1);
         }
     }

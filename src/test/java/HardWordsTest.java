@@ -22,6 +22,7 @@ public final class HardWordsTest {
             quotientsFromBack(1 + RANDOM.nextInt(120), 1 + RANDOM.nextInt(120));
             rootsNearSquare(hard(1 + RANDOM.nextInt(120)));
             rootOf(hard(1 + RANDOM.nextInt(240)));
+            fullSize(hard(160));
         }
         Due.finish();
     }
@@ -97,5 +98,30 @@ public final class HardWordsTest {
         Due.number(call, want[0], mill, 2);
         Due.number(call, want[1], mill, 3);
         calls += 13;
+    }
+
+    /** Numbers of all 65,536 bits, made by calls, as pushing them would take too many. */
+    private static void fullSize(BigInteger seed) {
+        renew(512);
+        put(0, seed);
+        BigInteger a = seed.pow(8);
+        int free = 65536 - a.bitLength();
+        mill.times(4, 0, 0);
+        mill.times(4, 4, 4);
+        mill.times(4, 4, 4);
+        Due.done("shift to full size", mill.shift(4, 4, free));
+        Due.number("shift to full size", a.shiftLeft(free), mill, 4);
+        Due.done("add at full size", mill.add(4, 4, 0));
+        a = a.shiftLeft(free).add(seed);
+        Due.done("root at full size", mill.root(5, 6, 4));
+        Due.number("root at full size", a.sqrt(), mill, 5);
+        Due.number("rest of root at full size", a.subtract(a.sqrt().pow(2)), mill, 6);
+        Due.done("divide at full size", mill.divide(7, 8, 4, 5));
+        Due.number("divide at full size", a.divide(a.sqrt()), mill, 7);
+        Due.number("rest of divide at full size", a.mod(a.sqrt()), mill, 8);
+        Due.done("divide at full size by few words", mill.divide(7, 8, 4, 0));
+        Due.number("divide at full size by few words", a.divide(seed), mill, 7);
+        Due.number("rest of divide at full size by few words", a.mod(seed), mill, 8);
+        calls = 512;
     }
 }
