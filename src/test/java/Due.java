@@ -2,17 +2,25 @@ import java.math.BigInteger;
 
 /** Counts the answers that are not the ones that are due, for the tests beside it. */
 final class Due {
+    static final int CALLS_FOR_A_NUMBER = 6;
+
     private static int checked = 0;
     private static int wrong = 0;
+    private static String sentence = "";
 
     private Due() {
+    }
+
+    /** What is checked from here on is what this sentence of the document says. */
+    static void by(String text) {
+        sentence = "\"" + text + "\": ";
     }
 
     static void is(String call, long want, long got) {
         checked++;
         if (got != want) {
             wrong++;
-            System.out.println(call + " answered " + got + ", due is " + want);
+            System.out.println(sentence + call + " answered " + got + ", due is " + want);
         }
     }
 
@@ -24,7 +32,7 @@ final class Due {
         is(call, 0, got ? 1 : 0);
     }
 
-    /** Register r has the number want, as far as every call that looks at a register tells it. */
+    /** Register r has the number want, as far as some calls that look at a register tell it. */
     static void number(String call, BigInteger want, WholeMill mill, int r) {
         String of = call + ": register " + r + ": ";
         is(of + "bits", want.bitLength(), mill.bits(r));
